@@ -86,6 +86,16 @@ final class PromiseTests {
         due("2: two too many", x.feed(1, 0, 0, 0, 1), NONE);
         due("2: nothing came", x.count(3), 239);
         due("2: the last", x.feed(0, 0, 0x100, 0, 0), 240);
+        for (int number = 0; number < 5; number++) {
+            due("2: each counts", x.feed(one(number, 0), one(number, 1), one(number, 2), one(number, 3), one(number, 4)), NONE);
+        }
+        x.end(231);
+        due("2: ten are too many", x.feed(0x0101, 0x01000001, 0x01010000, 0x00010100, 0x01000100), NONE);
+        due("2: nine are not", x.feed(0x0101, 0x01000001, 0x01010000, 0x00010100, 0x01000000), 240);
+    }
+
+    private static int one(int number, int place) {
+        return number == place ? 0x00ff0000 : 0;
     }
 
     private static void town(String text, int want) {
@@ -228,6 +238,9 @@ final class PromiseTests {
         law("y:!g=[[[[[[1", 10);
         law("y:!(g=1)|[[[[[[g]]]]]]<1?1", NONE);
         law("y:[g]=1&[[t]]>1?[g]*[[1]]", NONE);
+        law("y:g=[[[[[[1]]]]]]?1", NONE);
+        law("y:g=1&((((((t=1))))))|[[[[[[1]]]]]]>2?1", NONE);
+        law("y:g=1&(((((((t=1", 12);
     }
 
     private static void readTexts() {
@@ -365,6 +378,11 @@ final class PromiseTests {
         worth("y:50+[2-g]/4", 49);
         worth("y:50+[2-g]/5", 49);
         worth("y:d*10+n+q+y", 30);
+        worth("y:g+0", 8);
+        worth("y:g*0+7", 7);
+        worth("y:g<9&t=3?1;y:9", 1);
+        worth("y:g>7&!g<8&3=t?1;y:9", 1);
+        worth("y:!g<9|g<9&g=8?1;y:9", 1);
         worth("y:g=7?1;y:g=8?2;y:3", 2);
         worth("y:g=7?1", 0);
         worth("y:g=7?1;y:g<8?2;y:3", 3);
@@ -576,6 +594,8 @@ final class PromiseTests {
         due("18: sixty-one", x.decades(61, 1), NONE);
         due("18: no town", new SaintCarried().decades(1, 1), NONE);
         due("18: no status", x.status(0) + x.status(1), 0);
+        due("18: one", x.decades(1, 1) == NONE, false);
+        due("18: one act", x.count(15), 1);
         long[] seeds = {0, 1, -1, 5, Long.MIN_VALUE, Long.MAX_VALUE, 1234567890123L};
         for (long seed : seeds) {
             compareDecades(seed);
@@ -837,6 +857,7 @@ final class PromiseTests {
         due("25: bounds", x.roster(0), NONE);
         due("25: bounds", x.roster(201), NONE);
         due("25: no town", new SaintCarried().roster(1), NONE);
+        due("25: not the first, the fewest", Check.town("h;hx1;bs5;bs5;bs10").roster(10), 4);
         due("25: two hundred", Check.town("h;hx1;bs40;bs40;bs40;bs40;bs40").roster(200), 31);
     }
 
@@ -906,6 +927,11 @@ final class PromiseTests {
         due("28: below", x.ask(-1), NONE);
         due("28: above", x.ask(100), NONE);
         due("28: no town", new SaintCarried().ask(0), NONE);
+        due("28: below, all fits", Check.town(TOWN).ask(-1), NONE);
+        due("28: above, all fits", Check.town(TOWN).ask(100), NONE);
+        // Of house 0 seventeen (0 to 16) are alike, of house 1 sixteen (1 to 16).
+        SaintCarried most = Check.town("hx1;hx2q1;b", "y:q=1&g>0&g<17?1;y:q=1?2;y:g<17?1;y:2");
+        due("28: from none on", most.ask(0), 1);
         SaintCarried y = Check.town("hx1q1;hx2g0;b");
         due("28: thankful ones all alike", y.ask(99), 1);
     }
@@ -949,6 +975,9 @@ final class PromiseTests {
         due("30: as much as the other", z.rests(0, 1, NONE), 10);
         due("30: none at all", z.rests(0, 1, 0), 0);
         due("30: as good is no reason", z.rests(0, 1, 9), 99);
+        SaintCarried truth = Check.town("hx1;hx2;b", "y:g=5?20;y:1");
+        due("30: no claim is best", truth.rests(0, 1, NONE), 1);
+        due("30: none of both", truth.rests(0, 1, 0), 0);
     }
 
     // ---- 31, 32: the rival ----
@@ -984,6 +1013,11 @@ final class PromiseTests {
         late.carry(1);
         // He comes at 6 + 3 = 9: it has gone.
         due("32: it has gone", late.meets(2), 0);
+        SaintCarried ahead = Check.town("hy1g0;hx3g0;hx1g1q1;b", "y:q*3");
+        ahead.carry(2);
+        // He comes at 6 and is there one long though he doesn't stand; it comes at 7.
+        due("32: one long, not two", ahead.meets(1), 0);
+        due("32: it comes at 7", ahead.rival(1), 7);
         SaintCarried just = Check.town("hx1g0;hx2g1q1;hx5g0;b", "y:q*3");
         just.carry(1);
         due("32: its last", just.meets(2), 1);
@@ -1066,6 +1100,12 @@ final class PromiseTests {
         due("35: no time for it", Check.town("st9;hx9g1;hx1g2;b").odds(1, 0), 0);
         // Rain is 4 more: he comes at 13 instead of 9 and doesn't stand at all.
         due("35: stands by when he comes", Check.town("st13;hx9g1;hx1g2;b", "y:t>9?0;y:9").odds(1, 30), 300000000);
+        // 1 and 1, then 2 and 2: rain on the second way is 1 more.
+        due("35: stands by steps", Check.town("st6;hx1g1;hx3g2;b", "y:d").odds(2, 40), 600000000);
+        due("35: stands by steps", Check.town("st7;hx1g1;hx3g2;b", "y:d").odds(2, 40), 1000000000);
+        // 1, then 2 and 5 as the second door.
+        due("35: stands by doors", Check.town("st8;hx1g1;hx3g2;b", "y:n*5").odds(2, 40), 600000000);
+        due("35: no time for doors", Check.town("st7;hx1g1;hx3g2;b", "y:n*5").odds(2, 40), 0);
         x.carry(0);
         due("35: from here on", x.odds(2, 50), 1000000000);
         // Five ways, rain is lost at each: what is dry of 10 to the 9, the fifth 100ths cut.
@@ -1113,6 +1153,10 @@ final class PromiseTests {
         for (int what = 0; what < then.length; what++) {
             due("37: then " + what, x.most(what), then[what]);
         }
+        SaintCarried second = Check.town("hg0;hx1g7;hx1y1g0;b");
+        due("37: the second hardest", second.most(0), 1);
+        due("37: the first and the last content", second.most(3), 5);
+        due("37: at his niche", second.most(1), 0);
         SaintCarried alike = Check.town("hx1g3;hx2g3;hx1y1g3;b");
         due("37: of several the lowest", alike.most(0), 0);
         due("37: of several the lowest", alike.most(2), 1);
@@ -1135,6 +1179,8 @@ final class PromiseTests {
         due("38: none grow", Check.town("se0;hx1;hx2;b").years(11), NONE);
         SaintCarried most = Check.town("se1;hx1g29;hx2g29;hx3g29;hx4g29;hx5g29;hx6g29;hx7g26;b");
         due("38: two hundred", most.years(200), 0);
+        due("38: one", most.years(1), 0);
+        due("38: two hundred and one", Check.town("hx1g30;hx2g30;hx3g30;hx4g30;hx5g30;hx6g30;hx7g30;b").years(201), NONE);
         due("38: slow", Check.town("se1;hx1g0;hx2g0;b").years(60), 30);
     }
 
