@@ -932,6 +932,11 @@ final class PromiseTests {
         // Of house 0 seventeen (0 to 16) are alike, of house 1 sixteen (1 to 16).
         SaintCarried most = Check.town("hx1;hx2q1;b", "y:q=1&g>0&g<17?1;y:q=1?2;y:g<17?1;y:2");
         due("28: from none on", most.ask(0), 1);
+        // Of house 0 seventeen (14 to 30) are alike, of house 1 sixteen (14 to 29).
+        SaintCarried high = Check.town("hx1;hx2q1;b", "y:q=1&g>13&g<30?1;y:q=1?2;y:g>13?1;y:2");
+        due("28: up to thirty", high.ask(0), 1);
+        due("28: all stand sixty", Check.town("hx1;hx2;b", "y:99").ask(0), 0);
+        due("28: none stands", Check.town("hx1;hx2;b", "y:0").ask(0), 0);
         SaintCarried y = Check.town("hx1q1;hx2g0;b");
         due("28: thankful ones all alike", y.ask(99), 1);
     }
@@ -1135,6 +1140,7 @@ final class PromiseTests {
         due("36: bounds", x.shares(0, -1), NONE);
         due("36: no such", x.shares(4, 1), NONE);
         due("36: no such", x.shares(-1, 1), NONE);
+        due("36: one has one", Check.town("hg0;hx1g1;b").shares(1, 100), 100);
         due("36: none has any", Check.town("hg0;hx1g0;b").shares(0, 100), 0);
     }
 
@@ -1157,6 +1163,7 @@ final class PromiseTests {
         due("37: the second hardest", second.most(0), 1);
         due("37: the first and the last content", second.most(3), 5);
         due("37: at his niche", second.most(1), 0);
+        due("37: the first farthest", Check.town("hx3;hx1;hx2;b").most(2), 0);
         SaintCarried alike = Check.town("hx1g3;hx2g3;hx1y1g3;b");
         due("37: of several the lowest", alike.most(0), 0);
         due("37: of several the lowest", alike.most(2), 1);
