@@ -806,6 +806,7 @@ final class PromiseTests {
     private static void routeTies() {
         routeIs("none eased", Check.town("hx1q1;hx2q1;b"), NONE, 0, 0);
         routeIs("the least row", Check.town("hx1g2;hy1g2;b"), 1, 4, 7);
+        routeIs("fewer, though a longer one came first", Check.town("hx1g0;hx2g1;hx3g1;b"), 12, 2, 5);
         routeIs("one of two", Check.town("hx1g2;hy1g2;bs1"), 0, 2, 3);
         routeIs("the fewest", Check.town("hx1g1;hx2g2;hx3g3;bs3", "y:t=3?3;y:t=1?1;y:t=3?2;y:0"), 2, 3, 6);
     }
