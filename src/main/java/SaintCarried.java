@@ -52,7 +52,9 @@ public final class SaintCarried {
     private static final int KINDS = 3;
     private static final int[] KIND_SIGN = {'s', 'h', 'b'};
     private static final int[] KIND_MOST = {1, HOUSES_MOST, BEARERS_MOST};
-    private static final int[] KIND_SLOT = {0, 3, 31};
+    private static final int HOUSE_SLOT = 3;
+    private static final int BEARER_SLOT = 31;
+    private static final int[] KIND_SLOT = {0, HOUSE_SLOT, BEARER_SLOT};
     private static final int[] KIND_ITEMS = {3, 4, 1};
     private static final int[] KIND_FIRST_ITEM = {0, 3, 7};
     private static final int SLOTS = 36;
@@ -134,22 +136,19 @@ public final class SaintCarried {
         if (sort != 0 && sort != 1) {
             return NO_SUCH_SORT;
         }
-        return isRead(sort) ? NONE : tape.wrongAt();
+        boolean isRead = sort == 0 ? townReader.reads() : lawReader.reads();
+        return isRead ? NONE : tape.wrongAt();
     }
 
     public int text(int sort) {
         if (sort == 0) {
-            return isRead(sort) ? settle() : NONE;
+            return townReader.reads() ? settle() : NONE;
         }
-        if (sort == 1 && book.number() < LAWS_MOST && isRead(sort)) {
+        if (sort == 1 && book.number() < LAWS_MOST && lawReader.reads()) {
             tape.cut(0);
             return book.add(lawReader.draft());
         }
         return NONE;
-    }
-
-    private boolean isRead(int sort) {
-        return sort == 0 ? townReader.reads() : lawReader.reads();
     }
 
     private int settle() {
@@ -959,10 +958,13 @@ public final class SaintCarried {
 
         /** The next sign that is no blank; NONE at the end. */
         int peek() {
-            while (head < length && signAtHead() == BLANK) {
+            while (head >= 0 && head < length && head < signs.length) {
+                if (signs[head] != BLANK) {
+                    return signs[head];
+                }
                 head++;
             }
-            return signAtHead();
+            return NONE;
         }
 
         private int signAtHead() {
@@ -1038,6 +1040,9 @@ public final class SaintCarried {
             for (int kind = 0; kind < KINDS; kind++) {
                 setCell(clauses, kind, 0);
             }
+            for (int slot = 0; slot < SLOTS; slot++) {
+                put(slot, 0);
+            }
             putUsual(KIND_RULES, 0);
         }
 
@@ -1110,8 +1115,13 @@ public final class SaintCarried {
             return cell(slots, 2);
         }
 
+        // What is no house, the niche too, has 0 of each.
         private int ofHouse(int house, int item) {
-            return isHouse(house) ? cell(slots, cell(KIND_SLOT, KIND_HOUSE) + house * ITEMS_MOST + item) : 0;
+            if (house < 0 || house >= HOUSES_MOST || item < 0 || item >= ITEMS_MOST) {
+                return 0;
+            }
+            int slot = HOUSE_SLOT + house * ITEMS_MOST + item;
+            return slot < slots.length ? slots[slot] : 0;
         }
 
         int xOf(int house) {
@@ -1135,7 +1145,7 @@ public final class SaintCarried {
         }
 
         int strengthOf(int bearer) {
-            return bearer >= 0 && bearer < bearers() ? cell(slots, cell(KIND_SLOT, KIND_BEARER) + bearer) : 0;
+            return bearer >= 0 && bearer < bearers() ? cell(slots, BEARER_SLOT + bearer) : 0;
         }
 
         int strength() {
@@ -1562,19 +1572,19 @@ public final class SaintCarried {
                 default:
                     int right = pop();
                     int left = pop();
-                    push(worked(sign, left, right));
+                    push(within(worked(sign, left, right), -NUMBER_MOST, NUMBER_MOST));
                     break;
             }
         }
 
-        private static int worked(int sign, int left, int right) {
+        private static long worked(int sign, int left, int right) {
             switch (sign) {
                 case '+':
-                    return within((long) left + right, -NUMBER_MOST, NUMBER_MOST);
+                    return (long) left + right;
                 case '-':
-                    return within((long) left - right, -NUMBER_MOST, NUMBER_MOST);
+                    return (long) left - right;
                 case '*':
-                    return within((long) left * right, -NUMBER_MOST, NUMBER_MOST);
+                    return (long) left * right;
                 case '/':
                     return right == 0 ? 0 : left / right;
                 case '=':

@@ -7,7 +7,9 @@ public final class AllTests {
         PromiseTests.runAll();
         FaceTests.runAll();
         WildTests.runAll();
-        LanguageTests.runAll(args.length > 0 ? args[0] : "src/main/java/SaintCarried.java");
+        String program = args.length > 0 ? args[0] : "src/main/java/SaintCarried.java";
+        LanguageTests.runAll(program);
+        DepthTests.runAll(program);
         ModelTests.runAll(150, 1);
         System.out.println(Check.passed + " passed, " + Check.failed + " failed");
         if (Check.failed > 0) {
