@@ -1,13 +1,21 @@
-/** Runs all tests of the project; exit code 1 if one fails. */
+/** Runs all tests of the project; exit code 1 if one fails. The program and the document may be told by their paths. */
 public final class AllTests {
     private AllTests() {
     }
 
     public static void main(String[] args) throws Exception {
+        String program = args.length > 0 ? args[0] : "src/main/java/SaintCarried.java";
+        String document = args.length > 1 ? args[1] : "../shared/DOC.md";
         PromiseTests.runAll();
+        BoundsOfTexts.runAll();
+        BoundsOfDoors.runAll();
+        BoundsOfAsking.runAll();
+        BoundsOfOdds.runAll();
+        BoundsOfYears.runAll();
+        BoundsOfRefusals.runAll();
+        DocumentTests.runAll(document);
         FaceTests.runAll();
         WildTests.runAll();
-        String program = args.length > 0 ? args[0] : "src/main/java/SaintCarried.java";
         LanguageTests.runAll(program);
         DepthTests.runAll(program);
         ModelTests.runAll(150, 1);
