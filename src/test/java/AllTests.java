@@ -1,4 +1,4 @@
-/** Runs all tests of the project; exit code 1 if one fails. The program and the document may be told by their paths. */
+/** Runs all tests of the project; exit code 1 if one fails. The program, the document, the page may be told by their paths. */
 public final class AllTests {
     private AllTests() {
     }
@@ -6,6 +6,7 @@ public final class AllTests {
     public static void main(String[] args) throws Exception {
         String program = args.length > 0 ? args[0] : "src/main/java/SaintCarried.java";
         String document = args.length > 1 ? args[1] : "../shared/DOC.md";
+        String page = args.length > 2 ? args[2] : "README.md";
         PromiseTests.runAll();
         BoundsOfTexts.runAll();
         BoundsOfDoors.runAll();
@@ -18,6 +19,7 @@ public final class AllTests {
         WildTests.runAll();
         LanguageTests.runAll(program);
         DepthTests.runAll(program);
+        ReadmeTests.runAll(page);
         ModelTests.runAll(150, 1);
         System.out.println(Check.passed + " passed, " + Check.failed + " failed");
         if (Check.failed > 0) {
